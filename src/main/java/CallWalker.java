@@ -9,9 +9,6 @@ public final class CallWalker {
     private static final int MOST_STEPS = 24, MOST_VALUES = 12, MOST_HANDLERS = 4, MOST_CALLS = 10;
     private static final int MOST_FAILURES = 10, MOST_EVENTS = 40, MOST_LIMIT = 600, MOST_ELEMENTS = 16;
 
-    /** A step makes one row at the most, so a run never needs more rows than it has steps. */
-    private static final int MOST_ROWS = MOST_LIMIT;
-
     /** Far above what a run can need: a round takes a step, ends a call, or has one of 11 failures. */
     private static final int MOST_ROUNDS = 1000000;
 
@@ -213,9 +210,9 @@ public final class CallWalker {
             return true;
         }
 
-        /** A sum that comes back to where it was always fits. */
+        /** For a sum not below 0; one that comes back to where it was always fits. */
         boolean canMove(int from, int to, long sum) {
-            return from == to || sumFits(balances[to], sum);
+            return from == to || balances[to] <= Long.MAX_VALUE - sum;
         }
 
         void move(int from, int to, long sum) {
@@ -234,59 +231,6 @@ public final class CallWalker {
             System.arraycopy(keptLeaves[level], 0, leaves, 0, CONTRACTS * LEAVES);
             System.arraycopy(keptBalances[level], 0, balances, 0, CONTRACTS);
             eventCount = keptCounts[level];
-        }
-    }
-
-    /** The rows of one run, side by side in one array that every run uses again. */
-    private static final class Rows {
-        final long[] elements = new long[MOST_ROWS * MOST_ELEMENTS];
-        final int[] lengths = new int[MOST_ROWS];
-        int used = 0;
-
-        /** A new row's number; of its elements, all 0, there are none if there is no room. */
-        int make(int length) {
-            if (used >= MOST_ROWS || length < 0 || length > MOST_ELEMENTS) {
-                return MOST_ROWS;
-            }
-            int row = used;
-            used++;
-            lengths[row] = length;
-            for (int i = 0; i < length; i++) {
-                elements[row * MOST_ELEMENTS + i] = 0;
-            }
-            return row;
-        }
-
-        int lengthOf(long row) {
-            return row >= 0 && row < used ? lengths[(int) row] : 0;
-        }
-
-        boolean has(long row, long i) {
-            return i >= 0 && i < lengthOf(row);
-        }
-
-        /** Whether n elements from i on are all there. */
-        boolean hasRange(long row, long i, long n) {
-            int length = lengthOf(row);
-            return n >= 0 && i >= 0 && i <= length && n <= length - i;
-        }
-
-        /** Where element i stands; only for what has() or hasRange() allowed. */
-        int placeOf(long row, long i) {
-            return (int) row * MOST_ELEMENTS + (int) i;
-        }
-
-        void copyRange(long from, long i, long to, long j, int n) {
-            if (n > 0) {
-                System.arraycopy(elements, placeOf(from, i), elements, placeOf(to, j), n);
-            }
-        }
-
-        int copyOf(long row) {
-            int length = lengthOf(row);
-            int copy = make(length);
-            copyRange(row, 0, copy, 0, lengthOf(copy));
-            return copy;
         }
     }
 
@@ -336,11 +280,163 @@ public final class CallWalker {
         int putNumber(long number) {
             return put(NUMBER, number);
         }
+
+        /** The lowest number that no row on the pile has; -1 if there is none. */
+        int freeRow() {
+            int used = 0;
+            for (int i = 0; i < height && i < MOST_VALUES; i++) {
+                if (kinds[i] == LONGS || kinds[i] == INTS) {
+                    used |= 1 << (int) numbers[i];
+                }
+            }
+            for (int row = 0; row < MOST_VALUES; row++) {
+                if ((used >> row & 1) == 0) {
+                    return row;
+                }
+            }
+            return -1;
+        }
+    }
+
+    /**
+     * The rows of a frame, and the steps on them. A row is never anywhere but on its frame's pile, so there
+     * is room for as many as the pile has places, and a row that is not on the pile any more leaves its own.
+     */
+    private static final class Rows {
+        final Pile pile;
+        final long[] elements = new long[MOST_VALUES * MOST_ELEMENTS];
+        final int[] lengths = new int[MOST_VALUES];
+
+        Rows(Pile pile) {
+            this.pile = pile;
+        }
+
+        int putNew(int kind) {
+            if (!pile.tookNumber(0)) {
+                return CAST;
+            }
+            long length = pile.took(0);
+            if (length < 0) {
+                return SIZE;
+            }
+            if (length > MOST_ELEMENTS) {
+                return OVER;
+            }
+            int row = pile.freeRow();
+            if (row < 0) {
+                return PILE;
+            }
+            lengths[row] = (int) length;
+            // what the row's place held before must not show
+            for (int i = 0; i < length; i++) {
+                elements[row * MOST_ELEMENTS + i] = 0;
+            }
+            return pile.put(kind, row);
+        }
+
+        /** A row of another frame comes, as a copy. */
+        int putCopy(int kind, Rows others, long othersRow) {
+            int row = pile.freeRow();
+            if (row < 0) {
+                return PILE;
+            }
+            lengths[row] = others.lengthOf(othersRow);
+            if (lengths[row] > 0) {
+                int from = others.placeOf(othersRow, 0);
+                System.arraycopy(others.elements, from, elements, placeOf(row, 0), lengths[row]);
+            }
+            return pile.put(kind, row);
+        }
+
+        int putElement(int kind) {
+            if (!pile.tookNumber(0)) {
+                return CAST;
+            }
+            long i = pile.took(0);
+            long row = pile.took(1);
+            int failure = elementFailure(kind, pile.tookKind(1), row, i);
+            return failure == NONE ? pile.putNumber(elements[placeOf(row, i)]) : failure;
+        }
+
+        int changeElement(int kind) {
+            if (!pile.tookNumber(0) || !pile.tookNumber(1)) {
+                return CAST;
+            }
+            long v = pile.took(0);
+            long i = pile.took(1);
+            long row = pile.took(2);
+            int failure = elementFailure(kind, pile.tookKind(2), row, i);
+            if (failure == NONE) {
+                elements[placeOf(row, i)] = kind == INTS ? (int) v : v;
+            }
+            return failure;
+        }
+
+        /** What is wrong with element i of a value that should be a row of this kind. */
+        private int elementFailure(int kind, int valueKind, long row, long i) {
+            if (valueKind == NOTHING) {
+                return NULL;
+            }
+            if (valueKind != kind) {
+                return CAST;
+            }
+            return i >= 0 && i < lengthOf(row) ? NONE : INDEX;
+        }
+
+        int putLength() {
+            if (pile.tookKind(0) == NOTHING) {
+                return NULL;
+            }
+            if (pile.tookNumber(0)) {
+                return CAST;
+            }
+            return pile.putNumber(lengthOf(pile.took(0)));
+        }
+
+        int copyElements() {
+            if (!pile.tookNumber(0) || !pile.tookNumber(1) || !pile.tookNumber(3)) {
+                return CAST;
+            }
+            if (pile.tookKind(2) == NOTHING || pile.tookKind(4) == NOTHING) {
+                return NULL;
+            }
+            if (pile.tookNumber(2) || pile.tookKind(2) != pile.tookKind(4)) {
+                return CAST;
+            }
+            long n = pile.took(0);
+            long j = pile.took(1);
+            long b = pile.took(2);
+            long i = pile.took(3);
+            long a = pile.took(4);
+            if (!hasRange(a, i, n) || !hasRange(b, j, n)) {
+                return INDEX;
+            }
+            if (n > 0) {
+                System.arraycopy(elements, placeOf(a, i), elements, placeOf(b, j), (int) n);
+            }
+            return NONE;
+        }
+
+        private int lengthOf(long row) {
+            return row >= 0 && row < MOST_VALUES ? lengths[(int) row] : 0;
+        }
+
+        /** Whether n elements from i on are all there. */
+        private boolean hasRange(long row, long i, long n) {
+            int length = lengthOf(row);
+            return n >= 0 && i >= 0 && i <= length && n <= length - i;
+        }
+
+        /** Where an element stands that is there. */
+        private int placeOf(long row, long i) {
+            return (int) row * MOST_ELEMENTS + (int) i;
+        }
     }
 
     /** One call under way; made once for each depth, and used again. */
     private static final class Frame {
-        final Pile pile = new Pile();
+        final Pile pile;
+        final Rows rows;
         final int[] handlerSteps = new int[MOST_HANDLERS];
         final int[] handlerHeights = new int[MOST_HANDLERS];
         int handlers = 0;
@@ -353,6 +449,8 @@ public final class CallWalker {
 
         Frame(Behaviour behaviour) {
             this.behaviour = behaviour;
+            pile = new Pile();
+            rows = new Rows(pile);
         }
 
         void begin(Behaviour called, int itsContract, int itsCaller, int itsStop) {
@@ -415,7 +513,6 @@ public final class CallWalker {
     private static final class Walk {
         final Book book;
         final Ledger ledger;
-        final Rows rows = new Rows();
         final Frame[] frames = new Frame[MOST_CALLS];
         final int[] counts = new int[COUNTS];
         int depth = 0;
@@ -434,7 +531,6 @@ public final class CallWalker {
             for (int i = 0; i < COUNTS; i++) {
                 counts[i] = 0;
             }
-            rows.used = 0;
             ledger.eventCount = 0;
             depth = 0;
             answer = 0;
@@ -527,15 +623,15 @@ public final class CallWalker {
                 case 5: return putSwapped(pile);
                 case 13: return frame.jump(x);
                 case 14: return jumpIfZero(frame, x);
-                case 15: return putNewRow(pile, LONGS);
-                case 16: return putNewRow(pile, INTS);
-                case 17: return putElement(pile, LONGS);
-                case 18: return putElement(pile, INTS);
-                case 19: return changeElement(pile, LONGS);
-                case 20: return changeElement(pile, INTS);
-                case 21: return putLength(pile);
+                case 15: return frame.rows.putNew(LONGS);
+                case 16: return frame.rows.putNew(INTS);
+                case 17: return frame.rows.putElement(LONGS);
+                case 18: return frame.rows.putElement(INTS);
+                case 19: return frame.rows.changeElement(LONGS);
+                case 20: return frame.rows.changeElement(INTS);
+                case 21: return frame.rows.putLength();
                 case 22: return pile.put(NOTHING, 0);
-                case 23: return copyElements(pile);
+                case 23: return frame.rows.copyElements();
                 case 24: return frame.addHandler(x);
                 case 25: return frame.dropHandler();
                 case 26: return x >= 0 && x <= 7 ? OWN + x : CODE;
@@ -608,87 +704,6 @@ public final class CallWalker {
             return frame.pile.took(0) == 0 ? frame.jump(x) : NONE;
         }
 
-        private int putNewRow(Pile pile, int kind) {
-            if (!pile.tookNumber(0)) {
-                return CAST;
-            }
-            long length = pile.took(0);
-            if (length < 0) {
-                return SIZE;
-            }
-            if (length > MOST_ELEMENTS) {
-                return OVER;
-            }
-            return pile.put(kind, rows.make((int) length));
-        }
-
-        /** What is wrong with element i of a value that should be a row of this kind. */
-        private int elementFailure(int kind, int valueKind, long row, long i) {
-            if (valueKind == NOTHING) {
-                return NULL;
-            }
-            if (valueKind != kind) {
-                return CAST;
-            }
-            return rows.has(row, i) ? NONE : INDEX;
-        }
-
-        private int putElement(Pile pile, int kind) {
-            if (!pile.tookNumber(0)) {
-                return CAST;
-            }
-            long i = pile.took(0);
-            long row = pile.took(1);
-            int failure = elementFailure(kind, pile.tookKind(1), row, i);
-            return failure == NONE ? pile.putNumber(rows.elements[rows.placeOf(row, i)]) : failure;
-        }
-
-        private int changeElement(Pile pile, int kind) {
-            if (!pile.tookNumber(0) || !pile.tookNumber(1)) {
-                return CAST;
-            }
-            long v = pile.took(0);
-            long i = pile.took(1);
-            long row = pile.took(2);
-            int failure = elementFailure(kind, pile.tookKind(2), row, i);
-            if (failure == NONE) {
-                rows.elements[rows.placeOf(row, i)] = kind == INTS ? (int) v : v;
-            }
-            return failure;
-        }
-
-        private int putLength(Pile pile) {
-            if (pile.tookKind(0) == NOTHING) {
-                return NULL;
-            }
-            if (pile.tookNumber(0)) {
-                return CAST;
-            }
-            return pile.putNumber(rows.lengthOf(pile.took(0)));
-        }
-
-        private int copyElements(Pile pile) {
-            if (!pile.tookNumber(0) || !pile.tookNumber(1) || !pile.tookNumber(3)) {
-                return CAST;
-            }
-            if (pile.tookKind(2) == NOTHING || pile.tookKind(4) == NOTHING) {
-                return NULL;
-            }
-            if (pile.tookNumber(2) || pile.tookKind(2) != pile.tookKind(4)) {
-                return CAST;
-            }
-            long n = pile.took(0);
-            long j = pile.took(1);
-            long b = pile.took(2);
-            long i = pile.took(3);
-            long a = pile.took(4);
-            if (!rows.hasRange(a, i, n) || !rows.hasRange(b, j, n)) {
-                return INDEX;
-            }
-            rows.copyRange(a, i, b, j, (int) n);
-            return NONE;
-        }
-
         private int giveBack(Pile pile) {
             if (!pile.tookNumber(0)) {
                 return CAST;
@@ -720,8 +735,10 @@ public final class CallWalker {
             Frame called = open(book.find(contract, x % 8), contract, frame.contract, limit);
             ledger.move(frame.contract, contract, sum);
             int kind = pile.tookKind(0);
-            boolean isRow = kind == LONGS || kind == INTS;
-            return called.pile.put(kind, isRow ? rows.copyOf(pile.took(0)) : pile.took(0));
+            if (kind == LONGS || kind == INTS) {
+                return called.rows.putCopy(kind, frame.rows, pile.took(0));
+            }
+            return called.pile.put(kind, pile.took(0));
         }
 
         /** Why a contract may not call behaviour x % 8 of contract x / 8 with this sum. */

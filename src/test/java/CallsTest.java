@@ -36,6 +36,12 @@ public final class CallsTest {
         CallWalker w = Checks.with(24, 3, 26, 1, 26, 7, 26, 3);
         checks.same("24 is used once", w.run(0, 0, 0, 99), 16);
         checks.same("24 is used once", w.told(1), 2);
+        checks.same("24 is not there in the next run", w.run(0, 0, 0, 99), 16);
+        Checks.write(w, 0, 1, 24, 1, 0, 0);
+        Checks.write(w, 0, 2, 26, 6);
+        checks.same("24 stays behind", w.run(0, 1, 0, 99), 0);
+        checks.same("24 stays behind", w.run(0, 2, 0, 99), 19);
+        checks.same("24 stays behind", w.told(1), 1);
         checks.gives("24 four", 0, 0, 24, 0, 24, 0, 24, 0, 24, 0, 13, 5);
         checks.gives("24 a fifth", PILE, 0, 24, 5, 24, 5, 24, 5, 24, 5, 24, 0, 27, 0);
         checks.gives("24 a fifth, CODE first", CODE, 0, 24, 5, 24, 5, 24, 5, 24, 5, 24, 9, 27, 0);
@@ -93,7 +99,10 @@ public final class CallsTest {
         Checks.write(w, 0, 1, 31, 0, 6, 0, 27, 0);
         checks.same("29 itself", w.run(0, 0, 0, 99), 0);
         checks.same("29 itself", w.given(), 6);
-        // NOTHING and rows as the VALUE
+        Checks.write(w, 0, 0, 0, 0, 0, 99, 0, 6, 29, 0);
+        checks.same("29 itself, the same behaviour", w.run(0, 0, 0, 99), DEEP);
+        checks.same("29 itself, the same behaviour: steps", w.told(0), 40);
+        // NOTHING as the VALUE
         Checks.write(w, 0, 0, 0, 0, 0, 99, 22, 0, 29, 1);
         Checks.write(w, 0, 1, 21, 0);
         checks.same("29 NOTHING", w.run(0, 0, 0, 99), Checks.NULL);
@@ -299,6 +308,16 @@ public final class CallsTest {
             checks.same("a row is a copy: here", w.given(), 6);
             checks.same("a row is a copy: there", w.leaf(1, 0), 9);
         }
+        for (int length = 0; length <= 16; length++) {
+            CallWalker w = Checks.with(0, 0, 0, 99, 0, length, 15, 0, 3, 0, 0, length - 1, 0, 6, 19, 0, 29, 8, 27, 0);
+            Checks.write(w, 1, 0, 0, length - 1, 17, 0, 27, 0);
+            checks.same("the last of " + length, w.run(0, 0, 0, 99), length == 0 ? Checks.INDEX : 0);
+            checks.same("the last of " + length, w.given(), length == 0 ? 0 : 6);
+            Checks.write(w, 0, 0, 0, 0, 0, 99, 0, length, 16, 0, 29, 8, 27, 0);
+            Checks.write(w, 1, 0, 21, 0, 27, 0);
+            checks.same("how many of " + length, w.run(0, 0, 0, 99), 0);
+            checks.same("how many of " + length, w.given(), length);
+        }
         // within a frame there is one row: what comes once more is the same
         checks.gives("one row", 4, 2, 15, 0, 3, 0, 3, 0, 0, 0, 0, 4, 19, 0, 4, 0, 0, 0, 17, 0, 27, 0);
         // a row that was changed stays so, when a handler comes
@@ -330,6 +349,14 @@ public final class CallsTest {
         checks.same("done: leaf 2", w.leaf(2, 0), 3);
         checks.same("done: balances", w.balance(0) * 100 + w.balance(1) * 10 + w.balance(2), 423);
         checks.same("done: events", w.events(), 1);
+        // what the last contract had before is there again
+        w = Checks.with(24, 5, 0, 0, 0, 99, 0, 4, 29, 7 * 8);
+        Checks.write(w, 7, 1, 2, 7);
+        Checks.write(w, 7, 0, 2, 7, 26, 0);
+        checks.same("the last leaf", w.run(7, 1, 55, 99), 0);
+        checks.same("the last leaf, undone", w.run(0, 0, 0, 99), 0);
+        checks.same("the last leaf, undone: failures", w.told(1), 1);
+        checks.same("the last leaf, undone: there again", w.leaf(7, 7), 55);
         // a handler within the frame undoes nothing of it
         checks.gives("a handler undoes nothing", 5, 5, 24, 3, 2, 0, 26, 0, 4, 0, 1, 0, 27, 0);
         // the run's own call is undone, too

@@ -30,7 +30,9 @@ final class Checks {
     static void write(CallWalker walker, int contract, int behaviour, int... steps) {
         walker.empty(contract, behaviour);
         for (int i = 0; i + 1 < steps.length; i += 2) {
-            walker.step(contract, behaviour, steps[i], steps[i + 1]);
+            if (walker.step(contract, behaviour, steps[i], steps[i + 1]) != i / 2 + 1) {
+                throw new IllegalStateException("a test's step was not taken");
+            }
         }
     }
 

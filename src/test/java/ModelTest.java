@@ -403,7 +403,8 @@ public final class ModelTest {
             case 0: return new int[] {24, place};
             case 1: return new int[] {24, place, 0, small};
             case 2: case 3: case 4: case 5:
-                return new int[] {0, numbers.of(0, 0, 0, 1, 5, -1), 0, numbers.of(10, 30, 100, 600, 0, -4), 3, 0, 29, target};
+                return new int[] {0, numbers.of(0, 0, 0, 1, 5, -1), 0, numbers.of(10, 30, 100, 600, 0, -4),
+                    3, 0, 29, target};
             case 6: return new int[] {0, numbers.below(8), 0, 200, numbers.of(0, 22, 30), 7, 29, target};
             case 7: return new int[] {0, numbers.below(7), numbers.of(15, 16), 0};
             case 8: return new int[] {0, small, 15, 0, 3, 0, 0, small - 1, 0, numbers.of(EDGES), 19, 0};

@@ -13,6 +13,7 @@ public final class StepsTest {
         calculationsThatDoNotFit();
         jumps();
         newRows();
+        manyRowsAtOnce();
         elements();
         elementsThatAreNot();
         lengths();
@@ -138,10 +139,13 @@ public final class StepsTest {
             checks.fails(code + " of a row", CAST, 1, code, 0, code, 0);
         }
         // a place in the row is used, then the run comes again: the new row must be 0 all
-        CallWalker w = Checks.with(15, 0, 3, 0, 0, 1, 17, 0, 28, 0, 0, 1, 0, 9, 19, 0);
-        for (int i = 0; i < 2; i++) {
-            checks.same("15 run", w.run(0, 0, 3, 99), 0);
-            checks.same("15 0 all", w.value(0), 0);
+        CallWalker w = new CallWalker();
+        for (int place = 0; place < 3; place++) {
+            Checks.write(w, 0, 0, 15, 0, 3, 0, 0, place, 17, 0, 28, 0, 0, place, 0, 9, 19, 0);
+            for (int i = 0; i < 2; i++) {
+                checks.same("15 run", w.run(0, 0, 3, 99), 0);
+                checks.same("15 0 all", w.value(0), 0);
+            }
         }
         // as many rows as the limit allows
         Checks.write(w, 0, 0, 0, 16, 15, 0, 4, 0, 13, 0);
@@ -150,6 +154,28 @@ public final class StepsTest {
             0, 16, 15, 0, 3, 0, 0, 15, 0, 5, 19, 0, 0, 15, 17, 0, 27, 0);
         checks.same("15 many, then one", w.run(0, 0, 3, 600), 0);
         checks.same("15 many, then one", w.given(), 5);
+    }
+
+    private static void manyRowsAtOnce() {
+        // rows of 1 .. 12 elements, then their lengths as events until the pile is empty
+        CallWalker w = Checks.with(4, 0, 24, 20, 1, 0, 0, 1, 6, 0, 3, 0, 2, 0, 15, 0, 1, 0, 0, 10, 11, 0, 14, 13, 13, 2,
+            0, 11, 15, 0, 0, 12, 15, 0, 21, 0, 28, 0, 13, 17);
+        checks.same("12 rows", w.run(0, 0, 0, 600), 0);
+        checks.same("12 rows", w.events(), 12);
+        for (int i = 0; i < 12; i++) {
+            checks.same("12 rows: " + i, w.value(i), 12 - i);
+        }
+        // of two rows the upper one goes, and the new one takes its place, 0 all
+        Checks.write(w, 0, 0, 15, 0, 0, 2, 15, 0, 3, 0, 0, 1, 0, 8, 19, 0, 4, 0, 0, 2, 15, 0, 0, 1, 17, 0, 28, 0,
+            0, 1, 17, 0, 28, 0);
+        checks.same("a new row is 0 all", w.run(0, 0, 2, 600), 0);
+        checks.same("a new row is 0 all", w.value(0), 0);
+        // of three rows the middle one goes; the new one is none of the two others
+        Checks.write(w, 0, 0, 15, 0, 0, 2, 15, 0, 3, 0, 0, 1, 0, 8, 19, 0, 0, 2, 15, 0, 5, 0, 4, 0, 0, 2, 15, 0,
+            3, 0, 0, 1, 0, 9, 19, 0, 4, 0, 0, 1, 17, 0, 28, 0, 0, 1, 17, 0, 28, 0);
+        checks.same("a new row is no other", w.run(0, 0, 2, 600), 0);
+        checks.same("a new row is no other: the upper", w.value(0), 0);
+        checks.same("a new row is no other: the lower", w.value(1), 0);
     }
 
     private static void elements() {
@@ -312,6 +338,9 @@ public final class StepsTest {
             }
         }
         checks.fails("25", PILE, 1, 25, 0);
+        checks.gives("25 with an empty pile", 0, 1, 24, 0, 4, 0, 25, 0);
+        checks.gives("25 with 12", 0, 1, 24, 0, 0, 0, 0, 0, 0, 0, 0, 0, 0, 0, 0, 0, 0, 0, 0, 0, 0, 0, 0, 0, 0, 0,
+            25, 0);
         // what is there stays: 5 + 11
         checks.gives("PILE takes nothing", 16, 5, 24, 2, 6, 0, 6, 0, 27, 0);
         // what a step takes is gone, though it fails: only the failure's number is there
@@ -333,8 +362,12 @@ public final class StepsTest {
             checks.fails(code + " with 12", PILE, 1, full(code, 0));
             checks.fails(code + " with 12", PILE, 1, full(code, -1));
         }
-        for (int code : new int[] {4, 5, 6, 13, 14, 15, 28, 12}) {
-            checks.gives(code + " with 12", 0, 1, full(code, 12));
+        for (int code : new int[] {2, 4, 5, 6, 7, 11, 12, 13, 14, 15, 16, 28}) {
+            checks.gives(code + " with 12", 0, 1, full(code, code == 2 ? 7 : 12));
+        }
+        for (int code : new int[] {0, 3, 22, 30, 31, 1}) {
+            int[] steps = java.util.Arrays.copyOfRange(full(code, 0), 2, 24);
+            checks.gives(code + " with 11", 0, 1, steps);
         }
         checks.fails("24 with 12", PILE, 1, full(24, 0));
         checks.fails("24 with 12, CODE first", CODE, 1, full(24, -1));
