@@ -701,6 +701,10 @@ public final class CallWalker {
             if (!frame.pile.tookNumber(0)) {
                 return CAST;
             }
+            // a step that is not there is refused whether or not it would be next
+            if (!frame.behaviour.hasPlace(x)) {
+                return CODE;
+            }
             return frame.pile.took(0) == 0 ? frame.jump(x) : NONE;
         }
 

@@ -309,12 +309,12 @@ public final class ModelTest {
                 case 4: call.pop(); break;
                 case 5: pile.add(pile.size() - 2, call.pop()); break;
                 case 13: check(x >= 0 && x <= steps, Checks.CODE); call.next = x; break;
-                case 14:
-                    if (call.number(call.pop()) == 0) {
-                        check(x >= 0 && x <= steps, Checks.CODE);
-                        call.next = x;
-                    }
+                case 14: {
+                    long asked = call.number(call.pop());
+                    check(x >= 0 && x <= steps, Checks.CODE);
+                    call.next = asked == 0 ? x : call.next;
                     break;
+                }
                 case 22: pile.add(NOTHING); break;
                 case 24:
                     check(x >= 0 && x <= steps, Checks.CODE);

@@ -113,10 +113,21 @@ public final class StepsTest {
         checks.gives("14 of 2", 1, 2, 14, 3, 0, 1, 27, 0, 0, 9, 27, 0);
         checks.gives("14 of 1 << 32", 1, 1L << 32, 14, 3, 0, 1, 27, 0, 0, 9, 27, 0);
         checks.gives("14 to the end", 0, 0, 14, 2, 26, 0);
+        checks.fails("14 not to the end", 13, 1, 14, 2, 26, 0);
+        checks.fails("14 as the only step, behind the end", CODE, 1, 14, 2);
+        checks.gives("14 as the only step, to the end", 0, 1, 14, 1);
+        checks.fails("14 of nothing at all, ahead of CODE", PILE, 1, 4, 0, 14, -1);
+        // the number is gone when CODE comes: only the handler's number is left
+        checks.gives("14 CODE takes its number", CODE, 1, 24, 3, 14, -1, 26, 0, 27, 0);
+        CallWalker w = Checks.with(24, 3, 14, -1, 26, 0, 4, 0, 4, 0);
+        checks.same("14 CODE leaves nothing else", w.run(0, 0, 1, 600), PILE);
+        checks.same("14 CODE leaves nothing else", w.told(0), 4);
+        checks.same("14 CODE leaves nothing else", w.told(1), 2);
         for (int x : new int[] {-1, 3, MIN, MAX}) {
             checks.fails("13 " + x, CODE, 0, 13, x, 4, 0);
             checks.fails("14 " + x, CODE, 0, 14, x, 4, 0);
-            checks.gives("14 that goes on " + x, 0, 1, 14, x, 0, 0);
+            checks.fails("14 CODE whatever the number " + x, CODE, 1, 14, x, 4, 0);
+            checks.fails("14 CODE of a large number " + x, CODE, 1L << 32, 14, x, 4, 0);
             checks.fails("24 " + x, CODE, 0, 24, x, 4, 0);
             checks.fails("14 CAST ahead of CODE " + x, CAST, 0, 22, 0, 14, x);
         }
@@ -313,7 +324,7 @@ public final class StepsTest {
         checks.same("28 41", w.run(0, 0, 41, 600), PILE);
         checks.same("28 41", w.events(), 0);
         // the 41st fails, its number goes, and the others stay
-        Checks.write(w, 0, 0, 24, 8, 3, 0, 14, 11, 3, 0, 28, 0, 0, 1, 7, 0, 13, 1, 27, 0);
+        Checks.write(w, 0, 0, 24, 8, 3, 0, 14, 9, 3, 0, 28, 0, 0, 1, 7, 0, 13, 1, 27, 0);
         checks.same("28 41 with a handler", w.run(0, 0, 41, 600), 0);
         checks.same("28 41 with a handler", w.events(), 40);
         checks.same("28 41 with a handler", w.given(), PILE);
