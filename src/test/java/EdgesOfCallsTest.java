@@ -337,8 +337,17 @@ public final class EdgesOfCallsTest implements Names {
             Checks.write(w, 1, 0, PUT, 0, GET_INT - kind, 0);
             checks.same("its kind is the same", w.run(0, 0, 0, 99), CAST);
         }
+        CallWalker w = Checks.with(PUT, 0, PUT, 99, PUT, 1, NEW_LONGS, 0, AGAIN, 0, PUT, 0, PUT, 5, SET_LONG, 0,
+            CALL, 8, RETURN, 0);
+        Checks.write(w, 1, 0, PUT, 0, GET_LONG, 0, RETURN, 0);
+        checks.same("the only element", w.run(0, 0, 0, 99), 0);
+        checks.same("the only element", w.given(), 5);
+        w = Checks.with(NEW_LONGS, 0, PUT, 0, PUT, 99, PUT, 3, NEW_LONGS, 0, PUT, 0, DROP, 0, CALL, 8, RETURN, 0);
+        Checks.write(w, 1, 0, LENGTH, 0, RETURN, 0);
+        checks.same("of two the uppermost", w.run(0, 0, 2, 99), 0);
+        checks.same("of two the uppermost", w.given(), 3);
         // a row of 1 behind a row of 16 at the same depth: nothing of the longer one is there
-        CallWalker w = Checks.with(PUT, 0, PUT, 99, PUT, 16, NEW_LONGS, 0, AGAIN, 0, PUT, 1, PUT, 5, SET_LONG, 0,
+        w = Checks.with(PUT, 0, PUT, 99, PUT, 16, NEW_LONGS, 0, AGAIN, 0, PUT, 1, PUT, 5, SET_LONG, 0,
             CALL, 8, DROP, 0, PUT, 0, PUT, 99, PUT, 1, NEW_LONGS, 0, CALL, 9);
         Checks.write(w, 1, 1, PUT, 1, GET_LONG, 0);
         checks.same("a shorter one behind a longer one", w.run(0, 0, 0, 99), INDEX);

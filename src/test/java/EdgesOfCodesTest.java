@@ -32,6 +32,8 @@ public final class EdgesOfCodesTest implements Names {
         jump();
         jumpIfZero();
         newRow();
+        newRowWhereOneWas();
+        manyRows();
         elementComes();
         elementBecomes();
         howManyElements();
@@ -302,11 +304,53 @@ public final class EdgesOfCodesTest implements Names {
             }
             checks.gives("a 12th value", 0, 3, Checks.join(Checks.often(11, PUT, 16), steps(make, 0)));
         }
-        // 12 rows of 16 at once are all there, and none is another
-        int[] rows = Checks.join(steps(NEW_LONGS, 0), Checks.often(11, PUT, 16));
-        CallWalker w = Checks.with(Checks.join(rows, steps(NEW_LONGS, 0, LENGTH, 0, RETURN, 0)));
-        checks.same("many", w.run(0, 0, 16, 99), 0);
-        checks.same("many", w.given(), 16);
+    }
+
+    private static void newRowWhereOneWas() {
+        checks.sentence("15 a ROW of n longs, 16 of n ints, 0 all, comes (where another one was)");
+        for (int kind = 0; kind <= 1; kind++) {
+            for (int place = 0; place < 16; place++) {
+                int[] used = steps(PUT, 16, NEW_LONGS, 0, AGAIN, 0, PUT, place, PUT, 7, SET_LONG, 0, DROP, 0);
+                int[] anew = steps(PUT, 16, NEW_LONGS + kind, 0, PUT, place, GET_LONG + kind, 0, RETURN, 0);
+                checks.gives("in the same call", 0, 0, Checks.join(used, anew));
+                CallWalker w = Checks.with(PUT, 0, PUT, 9, PUT, 0, CALL, 8, PUT, 0, PUT, 9, PUT, 0, CALL, 9, RETURN, 0);
+                Checks.write(w, 1, 0, used);
+                Checks.write(w, 1, 1, anew);
+                checks.same("in another call", w.run(0, 0, 0, 99), 0);
+                checks.same("in another call", w.given(), 0);
+                w.run(1, 0, 0, 99);
+                checks.same("in another run", w.run(1, 1, 0, 99), 0);
+                checks.same("in another run", w.given(), 0);
+            }
+        }
+    }
+
+    private static void manyRows() {
+        checks.sentence("15 a ROW .. comes (as many as THE PILE has room for, none of them another)");
+        for (int kind = 0; kind <= 1; kind++) {
+            // 12 rows, of 1 .. 12 elements; then how many each of them has, from above
+            CallWalker w = Checks.with(DROP, 0, TRY, 20, LEAF, 0, PUT, 1, ADD, 0, AGAIN, 0, SET, 0,
+                NEW_LONGS + kind, 0, LEAF, 0, PUT, 10, BELOW, 0, JUMP_IF_ZERO, 13, JUMP, 2,
+                PUT, 11, NEW_LONGS + kind, 0, PUT, 12, NEW_LONGS + kind, 0, LENGTH, 0, EVENT, 0, JUMP, 17);
+            checks.same("12 rows", w.run(0, 0, 0, 600), 0);
+            checks.same("12 rows", w.events(), 12);
+            for (int i = 0; i < w.events(); i++) {
+                checks.same("12 rows: " + i, w.value(i), 12 - i);
+            }
+            // a row of 16, and one with a 7; the first goes, and a new one of 16 comes, and changes no other
+            checks.gives("where one was, beside another", 7, 16, NEW_LONGS + kind, 0, PUT, 1, NEW_LONGS + kind, 0,
+                AGAIN, 0, PUT, 0, PUT, 7, SET_LONG + kind, 0, SWAP, 0, DROP, 0, PUT, 16, NEW_LONGS + kind, 0, DROP, 0,
+                PUT, 0, GET_LONG + kind, 0, RETURN, 0);
+            // 9 rows of 16, as three more values are needed to change an element; then each one's last, from above
+            w = Checks.with(DROP, 0, TRY, 20, LEAF, 0, PUT, 1, ADD, 0, SET, 0, PUT, 16, NEW_LONGS + kind, 0, AGAIN, 0,
+                PUT, 15, LEAF, 0, SET_LONG + kind, 0, LEAF, 0, PUT, 9, LIKE, 0, JUMP_IF_ZERO, 2,
+                PUT, 15, GET_LONG + kind, 0, EVENT, 0, JUMP, 16);
+            checks.same("9 rows", w.run(0, 0, 0, 600), 0);
+            checks.same("9 rows", w.events(), 9);
+            for (int i = 0; i < w.events(); i++) {
+                checks.same("9 rows: " + i, w.value(i), 9 - i);
+            }
+        }
     }
 
     private static void elementComes() {
@@ -370,6 +414,8 @@ public final class EdgesOfCodesTest implements Names {
                 refused("i", CAST, 4, 3, Checks.join(steps(PUT, 3, make, 0), none, steps(PUT, 7)), set, 0);
                 refused("i, ahead of NULL", CAST, 4, 3, Checks.join(steps(NOTHING, 0), none, steps(PUT, 7)), set, 0);
             }
+            checks.gives("of no other row", 0, 2, make, 0, PUT, 2, make, 0, PUT, 1, PUT, 7, set, 0,
+                PUT, 1, set - 2, 0, RETURN, 0);
             // element 1 is 7; a step of v = 9 on element 2 is refused, and no element is changed by it
             for (int place = 0; place <= 1; place++) {
                 checks.gives("what was refused changes nothing", 7 * place, 2, make, 0, TRY, 10, AGAIN, 0, PUT, 1,
@@ -385,6 +431,8 @@ public final class EdgesOfCodesTest implements Names {
                 checks.gives("of " + length, length, length, make, 0, LENGTH, 0, RETURN, 0);
             }
         }
+        checks.gives("of the uppermost", 3, 2, NEW_LONGS, 0, PUT, 3, NEW_LONGS, 0, PUT, 0, DROP, 0,
+            LENGTH, 0, RETURN, 0);
         refused("NOTHING", NULL, 2, 1, steps(NOTHING, 0), LENGTH, 0);
         refused("a NUMBER", CAST, 2, 1, steps(PUT, 0), LENGTH, 0);
         refused("of none", PILE, 0, 0, steps(DROP, 0), LENGTH, 0);
@@ -432,6 +480,10 @@ public final class EdgesOfCodesTest implements Names {
             copyRange(length, length + 1, length, 0, 0);
             copyRange(length, 0, length, length + 1, 0);
         }
+        // b, b, a with a 4 in it; then b, a, i, b, j, n
+        checks.gives("of a, and not of what is below", 4, 1, NEW_LONGS, 0, AGAIN, 0, PUT, 1, NEW_LONGS, 0,
+            AGAIN, 0, PUT, 0, PUT, 4, SET_LONG, 0, SWAP, 0, PUT, 0, SWAP, 0, PUT, 0, PUT, 1, COPY, 0,
+            PUT, 0, GET_LONG, 0, RETURN, 0);
         refused("INDEX takes all five", INDEX, 6, 5,
             steps(PUT, 2, NEW_LONGS, 0, PUT, 0, PUT, 2, NEW_LONGS, 0, PUT, 0, PUT, 3), COPY, 0);
     }
