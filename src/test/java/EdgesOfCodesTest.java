@@ -678,10 +678,10 @@ public final class EdgesOfCodesTest implements Names {
             checks.gives(code + " with 12: 11 are left, and the number", PILE, 5, Checks.join(Checks.often(10, PUT, 0),
                 steps(TRY, 13, PUT, 0, code, 0, RETURN, 0)));
         }
-        // those that make no more than they take, with numbers that are good for each
-        for (int code : new int[] {SET, DROP, SWAP, ADD, SUBTRACT, MULTIPLY, DIVIDE, REST, BELOW, LIKE, JUMP_IF_ZERO,
-            NEW_LONGS, NEW_INTS, EVENT, CALL}) {
-            int x = code == CALL ? 8 : code == JUMP_IF_ZERO ? 13 : 0;
+        // those that make no more than they take, with numbers that are good for each; step 12 is the next one
+        for (int code : new int[] {SET, DROP, SWAP, ADD, SUBTRACT, MULTIPLY, DIVIDE, REST, BELOW, LIKE, JUMP,
+            JUMP_IF_ZERO, NEW_LONGS, NEW_INTS, FAIL, EVENT, CALL}) {
+            int x = code == CALL ? 8 : code == JUMP || code == JUMP_IF_ZERO ? 12 : 0;
             checks.fails(code + " is no PILE with 12", OWN, 5, Checks.join(Checks.often(8, PUT, 0),
                 steps(PUT, 0, PUT, 1, PUT, 1, code, x, FAIL, 0)));
         }
