@@ -422,42 +422,112 @@ public final class ModelTest {
         }
     }
 
-    private static void write(Numbers numbers, CallWalker walker, Model model, Checks checks) {
-        for (int contract = 0; contract < 3; contract++) {
-            for (int behaviour = 0; behaviour < 3; behaviour++) {
-                if (numbers.below(12) == 0) {
-                    continue;
-                }
-                List<int[]> steps = model.book.get(contract).get(behaviour);
-                checks.same("empty", walker.empty(contract, behaviour), steps.size());
-                steps.clear();
-                int wanted = 1 + numbers.below(24);
-                while (steps.size() < wanted) {
-                    int[] some = snippet(numbers);
-                    for (int i = 0; i < some.length && steps.size() < 24; i += 2) {
-                        steps.add(new int[] {some[i], some[i + 1]});
-                        checks.same("step", walker.step(contract, behaviour, some[i], some[i + 1]), steps.size());
+    /** One object beside its model, for no more calls than the document answers for. */
+    private static final class Trial {
+        private static final int MOST_CALLS = 512;
+        private static final int TO_FUND_AND_GUARD = 6, TO_WRITE = 1 + 24;
+        private static final int TO_RUN_AND_COMPARE = 1 + 1 + 5 + 8 + 64 + 1 + 2 * 40;
+
+        final String name;
+        final Numbers numbers;
+        final Checks checks;
+        final CallWalker walker = new CallWalker();
+        final Model model = new Model();
+        final int[] seen;
+        final int[] deep;
+        int calls = 0;
+
+        Trial(int seed, Checks checks, int[] seen, int[] deep) {
+            name = "seed " + seed;
+            numbers = new Numbers(seed);
+            this.checks = checks;
+            this.seen = seen;
+            this.deep = deep;
+        }
+
+        void same(String what, long got, long want) {
+            calls++;
+            checks.same(name + " call " + calls + " " + what, got, want);
+        }
+
+        boolean hasRoomFor(int more) {
+            return calls + more <= MOST_CALLS;
+        }
+
+        void go() {
+            for (int contract = 0; contract < 3; contract++) {
+                for (int behaviour = 0; behaviour < 3; behaviour++) {
+                    if (numbers.below(8) != 0) {
+                        write(contract, behaviour, 1 + numbers.below(20));
                     }
                 }
             }
+            fundAndGuard();
+            while (hasRoomFor(TO_RUN_AND_COMPARE)) {
+                runAndCompare();
+                if (numbers.below(3) == 0 && hasRoomFor(TO_FUND_AND_GUARD)) {
+                    fundAndGuard();
+                }
+                if (numbers.below(3) == 0 && hasRoomFor(TO_WRITE)) {
+                    write(numbers.below(3), numbers.below(3), 1 + numbers.below(24));
+                }
+            }
+            checks.same(name + " used the object more often than is promised", hasRoomFor(0) ? 1 : 0, 1);
         }
-    }
 
-    private static void compare(String what, CallWalker walker, Model model, Checks checks) {
-        checks.same(what + " given", walker.given(), model.given);
-        for (int i = 0; i < 5; i++) {
-            checks.same(what + " told " + i, walker.told(i), model.told[i]);
-        }
-        for (int i = 0; i < 8; i++) {
-            checks.same(what + " balance " + i, walker.balance(i), model.state.balances[i]);
-            for (int k = 0; k < 8; k++) {
-                checks.same(what + " leaf " + i + " " + k, walker.leaf(i, k), model.state.leaves[i][k]);
+        void write(int contract, int behaviour, int wanted) {
+            List<int[]> steps = model.book.get(contract).get(behaviour);
+            same("empty", walker.empty(contract, behaviour), steps.size());
+            steps.clear();
+            while (steps.size() < wanted) {
+                int[] some = snippet(numbers);
+                for (int i = 0; i < some.length && steps.size() < 24; i += 2) {
+                    steps.add(new int[] {some[i], some[i + 1]});
+                    same("step", walker.step(contract, behaviour, some[i], some[i + 1]), steps.size());
+                }
             }
         }
-        checks.same(what + " events", walker.events(), model.state.events.size());
-        for (int i = 0; i < model.state.events.size() && i < walker.events(); i++) {
-            checks.same(what + " event " + i, walker.event(i, 0), model.state.events.get(i)[0]);
-            checks.same(what + " value " + i, walker.value(i), model.state.events.get(i)[1]);
+
+        void fundAndGuard() {
+            for (int contract = 0; contract < 3; contract++) {
+                long sum = numbers.below(20) == 0 ? Long.MAX_VALUE : numbers.below(30);
+                same("fund", walker.fund(contract, sum), 1);
+                model.state.balances[contract] = sum;
+                boolean on = numbers.below(4) == 0;
+                same("guard", walker.guard(contract, on), model.guarded[contract] ? 1 : 0);
+                model.guarded[contract] = on;
+            }
+        }
+
+        void runAndCompare() {
+            int contract = numbers.below(3);
+            int behaviour = numbers.below(3);
+            long argument = numbers.of(EDGES) * (numbers.below(8) == 0 ? 1L << 33 : 1L);
+            int limit = numbers.of(0, 5, 20, 60, 200, 600, 600, 600);
+            int want = model.run(contract, behaviour, argument, limit);
+            same("run", walker.run(contract, behaviour, argument, limit), want);
+            seen[want + 3]++;
+            deep[model.told[2]]++;
+            same("given", walker.given(), model.given);
+            for (int i = 0; i < 5; i++) {
+                same("told " + i, walker.told(i), model.told[i]);
+            }
+            for (int i = 0; i < 8; i++) {
+                same("balance " + i, walker.balance(i), model.state.balances[i]);
+                for (int k = 0; k < 8; k++) {
+                    same("leaf " + i + " " + k, walker.leaf(i, k), model.state.leaves[i][k]);
+                }
+            }
+            compareEvents();
+        }
+
+        void compareEvents() {
+            int count = walker.events();
+            same("events", count, model.state.events.size());
+            for (int i = 0; i < model.state.events.size() && i < count; i++) {
+                same("event " + i, walker.event(i, 0), model.state.events.get(i)[0]);
+                same("value " + i, walker.value(i), model.state.events.get(i)[1]);
+            }
         }
     }
 
@@ -465,33 +535,8 @@ public final class ModelTest {
         Checks checks = new Checks();
         int[] seen = new int[32];
         int[] deep = new int[11];
-        for (int seed = 1; seed <= 20000; seed++) {
-            Numbers numbers = new Numbers(seed);
-            CallWalker walker = new CallWalker();
-            Model model = new Model();
-            for (int round = 0; round < 3; round++) {
-                write(numbers, walker, model, checks);
-                for (int contract = 0; contract < 3; contract++) {
-                    long sum = numbers.below(20) == 0 ? Long.MAX_VALUE : numbers.below(30);
-                    walker.fund(contract, sum);
-                    model.state.balances[contract] = sum;
-                    boolean on = numbers.below(4) == 0;
-                    checks.same("guard", walker.guard(contract, on), model.guarded[contract] ? 1 : 0);
-                    model.guarded[contract] = on;
-                }
-                for (int i = 0; i < 4; i++) {
-                    int contract = numbers.below(3);
-                    int behaviour = numbers.below(3);
-                    long argument = numbers.of(EDGES) * (numbers.below(8) == 0 ? 1L << 33 : 1L);
-                    int limit = numbers.of(0, 5, 20, 60, 200, 600, 600, 600);
-                    String what = "seed " + seed + " round " + round + " run " + i;
-                    int want = model.run(contract, behaviour, argument, limit);
-                    checks.same(what, walker.run(contract, behaviour, argument, limit), want);
-                    compare(what, walker, model, checks);
-                    seen[want + 3]++;
-                    deep[model.told[2]]++;
-                }
-            }
+        for (int seed = 1; seed <= 80000; seed++) {
+            new Trial(seed, checks, seen, deep).go();
         }
         StringBuilder ends = new StringBuilder("answers -3 .. 20 were seen so often:");
         for (int i = 0; i <= 23; i++) {
